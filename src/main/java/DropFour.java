@@ -345,8 +345,8 @@ public final class DropFour {
         }
 
         private int remembered(long mine, long theirs, long moves, int left, int low, int high) {
-            // Adding fills each column's bits up to its height and one, so no two positions agree.
-            long key = mine + (mine | theirs) + grid.floor;
+            // In each column one bit on top of the stones, and mine below it: no two positions agree.
+            long key = ((mine | theirs) + grid.floor) | mine;
             boolean known = memory.holds(key);
             int least = known ? memory.leastOf(key) : leastAtFirst(mine, left);
             int most = known ? memory.mostOf(key) : mostAtFirst(theirs, left);

@@ -2,15 +2,25 @@ import java.util.concurrent.Callable;
 
 /** Compares answers with those that are due, and ends a test with exit code 1 if one was wrong. */
 final class Check {
+    private String about = "";
     private int wrong = 0;
     private int right = 0;
+
+    /** What the next answers are looked at for: it is printed before each wrong one. */
+    void about(String words) {
+        about = words;
+    }
+
+    int answers() {
+        return right + wrong;
+    }
 
     void same(String what, Object got, Object due) {
         if (got.equals(due)) {
             right++;
         } else {
             wrong++;
-            System.out.println(what + " answered " + got + ", due is " + due);
+            System.out.println(about + what + " answered " + got + ", due is " + due);
         }
     }
 
@@ -68,5 +78,16 @@ final class Check {
             seen.append(" open ").append(game.open(player)).append(" threats ").append(game.threats(player));
         }
         return seen.toString();
+    }
+
+    /** All that can be seen, values and following too. */
+    static String wholeSight(DropFour game, int columns, int rows) {
+        StringBuilder seen = new StringBuilder(sight(game, columns, rows));
+        seen.append(" value ").append(outcome(game::value)).append(" best ").append(outcome(game::best));
+        for (int i = 0; i < columns; i++) {
+            int column = i;
+            seen.append(" valueOf ").append(outcome(() -> game.valueOf(column)));
+        }
+        return seen.append(" beats ").append(outcome(game::beats)).toString();
     }
 }

@@ -49,13 +49,17 @@ final class FollowingSentences {
         beats("player 0 leads and does not win", 3, 4, "", false);
         beats("player 1 leads and wins", 5, 3, "43102", true);
         beats("player 1 leads and does not win", 3, 5, "210", false);
-        beats("player 1 leads, a column is full", 5, 3, "0103024", true);
-        // Player 0 has three in the lowest row, and player 1 has three above them.
-        beats("player 0 leads and has the first square", 4, 4, "001122", true);
+        // Were the other one the leader, each of these would be answered the other way round.
+        beats("player 0 leads and wins, player 1 would not", 4, 4, "0000", true);
+        beats("player 0 leads and does not win, player 1 would", 4, 3, "000123", false);
+        beats("player 1 leads and wins, player 0 would not", 5, 3, "1201134", true);
+        beats("player 1 leads and does not win, player 0 would", 3, 7, "01020", false);
     }
 
     private void followerAnswers() {
         beats("the drop that wins is not answered, though the answer would be a line", 4, 4, "001122", true);
+        beats("the same in a column", 4, 5, "313032100221022011", true);
+        beats("the same in a column of the largest board", 8, 7, "44503246444405356016755556617166700003", true);
         beats("the follower's line comes below the leader's", 4, 6, "000202", false);
         beats("an answer to the last drop but one is a line", 7, 4, "6616210341543133002650", false);
         beats("stones fall in turn in each column, so no column alone wins", 3, 4, "", false);
@@ -66,6 +70,12 @@ final class FollowingSentences {
     private void someOrder() {
         beats("the lowest row, in any order", 4, 4, "", true);
         beats("no line for the leader", 4, 4, "101110", false);
+        for (String columns : FollowedLines.OF_8_BY_7) {
+            beats("8 by 7, one line is left, " + columns, 8, 7, columns, true);
+        }
+        for (String columns : FollowedLines.OF_9_BY_6) {
+            beats("9 by 6, one line is left, " + columns, 9, 6, columns, true);
+        }
         int answers = 0;
         for (int[] size : new int[][] {{3, 4}, {4, 3}, {4, 4}, {5, 3}, {5, 4}, {3, 7}, {6, 4}, {9, 3}}) {
             for (int seed = 0; seed < 300; seed++) {

@@ -234,7 +234,7 @@ final class LinesSentences {
     }
 
     private void openOfNoPlayer() {
-        for (Position position : new Position[] {Position.NOT_OVER[0], Position.NOT_OVER[5], Position.FULL_EVEN}) {
+        for (Position position : new Position[] {Position.SMALLEST, Position.WIDEST, Position.FULL_EVEN}) {
             DropFour game = position.game();
             for (int player : NO_PLAYERS) {
                 check.argument(position.what() + ": open(" + player + ")", () -> game.open(player));
@@ -293,7 +293,7 @@ final class LinesSentences {
     }
 
     private void threatsOfNoPlayer() {
-        for (Position position : new Position[] {Position.NOT_OVER[0], Position.NOT_OVER[5], Position.FULL_EVEN}) {
+        for (Position position : new Position[] {Position.SMALLEST, Position.WIDEST, Position.FULL_EVEN}) {
             DropFour game = position.game();
             for (int player : NO_PLAYERS) {
                 check.argument(position.what() + ": threats(" + player + ")", () -> game.threats(player));

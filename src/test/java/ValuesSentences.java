@@ -89,14 +89,31 @@ final class ValuesSentences {
         new Worth(4, 3, "11012", 7, 3, -2, FULL, -2, 7),
     };
 
+    private static final Worth[] LARGE = {
+        new Worth(8, 7, "07120602661056510505403147662267225525771377", 9, 4, FULL, -2, FULL, -2, 9, FULL, FULL, FULL),
+        new Worth(8, 7, "32707155355763706373715557122031136626626104", -4, 0, -4, -4, -4, FULL, -2, FULL, FULL, FULL),
+        new Worth(8, 7, "7635360233163404431477673042540001764765751061", 0, 1, FULL, 0, -2, FULL, FULL, -8, FULL, FULL),
+        new Worth(8, 7, "047413565701333650102326332221246575457606421", 1, 5, 0, 9, FULL, FULL, 0, 1, 0, 3),
+        new Worth(9, 6, "7813465827485441700180168803760761017232322", 7, 2, FULL, FULL, 7, 7, -6, -2, -6, FULL, FULL),
+        new Worth(9, 6, "326122455788185586122647764255778784404163", -10, 0, -10, -10, FULL, -2, FULL, FULL, -10, FULL, FULL),
+        new Worth(9, 6, "473170674603367603781481651603107508818822", 0, 5, FULL, FULL, -2, -2, -2, 0, FULL, FULL, FULL),
+        new Worth(9, 3, "752813272830354", 11, 1, -6, 11, FULL, FULL, -6, -4, -10, -4, -4),
+        new Worth(9, 3, "501272233506345", -12, 0, -12, -12, FULL, FULL, -2, FULL, -12, -12, -10),
+        new Worth(7, 6, "642346236356001054245441326552", -12, 1, -6, -12, -6, -10, FULL, -6, -6),
+        new Worth(7, 7, "33006540653332610325063121424655556214", 11, 2, 0, -6, 11, FULL, -10, FULL, -10),
+        new Worth(3, 7, "121112121", 1, 2, -2, 0, 1),
+    };
+
     private static final Worth[][] ALL = {
-        WINS, LOSSES, DRAWS, SOONER_WINS, LATER_LOSSES, DRAWS_NOT_LOSSES, WINS_NOT_DRAWS,
+        WINS, LOSSES, DRAWS, SOONER_WINS, LATER_LOSSES, DRAWS_NOT_LOSSES, WINS_NOT_DRAWS, LARGE,
     };
 
     private static final Position[] TOO_MANY_EMPTY = {
         new Position("13 squares empty", 5, 3, "11"),
         new Position("13 squares empty, one drop wins", 7, 3, "00112255"),
         new Position("13 squares empty, a column is full", 4, 4, "000"),
+        new Position("13 squares empty on the largest board", 8, 7, "3270715535576370637371555712203113662662610"),
+        new Position("13 squares empty on the widest board", 9, 6, "32612245578818558612264776425577878440416"),
         new Position("14 squares empty", 5, 3, "1"),
         new Position("16 squares empty", 4, 4, ""),
         new Position("42 squares empty", 7, 6, ""),
@@ -183,9 +200,30 @@ final class ValuesSentences {
         for (Worth[] some : ALL) {
             values(some);
         }
-        DropFour game = Check.game(4, 3, "01230123012");
-        check.same("one square empty", game.value(), 0);
-        check.same("asked once more", game.value(), 0);
+        for (Worth[] some : ALL) {
+            for (Worth worth : some) {
+                valueAfterOtherCalls(worth);
+            }
+        }
+    }
+
+    /** What was asked and dropped before, in whatever order, does not colour the answer. */
+    private void valueAfterOtherCalls(Worth worth) {
+        DropFour game = worth.game();
+        check.same(worth.what() + "best() first", game.best(), worth.best);
+        check.same(worth.what() + "value() after best()", game.value(), worth.value);
+        for (int column = worth.w - 1; column >= 0; column--) {
+            if (worth.ofColumns[column] != FULL) {
+                game.drop(column);
+                Check.outcome(game::best);
+                Check.outcome(game::value);
+                game.back();
+                check.same(worth.what() + "valueOf(" + column + ") after it was tried",
+                        game.valueOf(column), worth.ofColumns[column]);
+            }
+        }
+        check.same(worth.what() + "value() at last", game.value(), worth.value);
+        check.same(worth.what() + "best() at last", game.best(), worth.best);
     }
 
     private void valueWhenOver() {

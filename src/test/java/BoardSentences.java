@@ -13,8 +13,6 @@ final class BoardSentences {
     }
 
     void all() {
-        sentences.test("What it is", "An object is used for at most 512 calls after it has been made",
-                this::theLastCallOf512);
         terms();
         newBoards();
         dropping();
@@ -60,23 +58,6 @@ final class BoardSentences {
         sentences.test("Promise 6: at", "NONE when it is empty.", this::emptySquares);
         sentences.test("Promise 6: at", "IndexOutOfBoundsException when there is no such square.", this::noSuchSquare);
         sentences.test("Promise 7: empty", "How many squares are empty.", this::countsOfEmpty);
-    }
-
-    private void theLastCallOf512() {
-        DropFour often = new DropFour(9, 6);
-        for (int i = 0; i < 255; i++) {
-            often.drop(8);
-            often.back();
-        }
-        check.same("call 511: drop(8)", often.drop(8), 0);
-        check.same("call 512: at(8, 0)", often.at(8, 0), 0);
-
-        DropFour valued = Check.game(4, 5, "01133301");
-        for (int call = 9; call <= 510; call++) {
-            valued.valueOf(call % 4);
-        }
-        check.same("call 511: best()", valued.best(), 3);
-        check.same("call 512: value()", valued.value(), 5);
     }
 
     private void squares() {

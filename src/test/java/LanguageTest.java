@@ -34,8 +34,9 @@ import javax.tools.ToolProvider;
 
 /**
  * The rules of ../shared/LANGUAGE.md that can be seen in the program's syntax. Rule 1 is looked at
- * by FaceTest; that no call throws by itself and every loop ends (7 and 9) is left to the reader,
- * but for loops that have no condition at all.
+ * by FaceTest, who calls whom by CallsTest, what is made (12) by RoomTest; that no call throws by
+ * itself and every loop ends (7 and 9) is left to the reader, but for loops that have no condition
+ * at all.
  */
 public final class LanguageTest extends TreePathScanner<Void, Void> {
     private static final Path PROGRAM = Path.of("src/main/java/DropFour.java");
@@ -45,6 +46,8 @@ public final class LanguageTest extends TreePathScanner<Void, Void> {
     private static final Set<String> IMPORTS = Set.of("java.util.ArrayList", "java.util.List", "java.util.Arrays",
             "java.util.Iterator", "java.util.NoSuchElementException");
     private static final Set<String> LIBRARY = Set.of("Math", "Integer", "Long", "String", "System", "Arrays", "List");
+    // What the program has need of; rule 3 would leave some more.
+    private static final Set<String> TYPES = Set.of("int", "long", "boolean", "int[]", "long[]");
     private static final Set<String> STATIC_TYPES = Set.of("int", "long", "boolean", "char", "String",
             "int[]", "long[]", "char[]", "byte[]");
     private static final int MOST_CLASSES = 12;
@@ -150,6 +153,13 @@ public final class LanguageTest extends TreePathScanner<Void, Void> {
         check.same("rule 11: lines of " + name, linesOf(tree) <= MOST_LINES, true);
         check.same("rule 6: a method named " + name, Set.of("equals", "hashCode", "toString").contains(name), false);
         return super.visitMethod(tree, none);
+    }
+
+    @Override
+    public Void visitVariable(VariableTree tree, Void none) {
+        String type = tree.getType().toString();
+        check.same("rule 3: " + tree.getName() + " has the type " + type, TYPES.contains(type) || classes.contains(type), true);
+        return super.visitVariable(tree, none);
     }
 
     @Override

@@ -31,7 +31,7 @@ final class Sentences {
         check.about("");
     }
 
-    /** Every test's words stand in the document; every word of the terms and the promises is in some test. */
+    /** Every test's words stand in the document; every word of what is promised is in some test. */
     void compareWithDocument() throws IOException {
         if (!Files.isReadable(DOCUMENT)) {
             System.out.println(DOCUMENT + " is not here: the words of the tests are not compared with it");
@@ -55,7 +55,7 @@ final class Sentences {
                 left.setCharAt(i, ' ');
             }
         }
-        if (heading.equals("Terms") || heading.startsWith("Promise ")) {
+        if (heading.equals("What it is") || heading.equals("Terms") || heading.startsWith("Promise ")) {
             check.same(heading + ": words without a test", left.toString().replaceAll("\\W+", " ").trim(), "");
         }
     }

@@ -1,8 +1,8 @@
 import java.io.IOException;
 
 /**
- * One test for each sentence, or part of one, of the document's terms and promises: what it names at
- * the edges (too small, too large, empty, full, around an edge, refused) and just beside them.
+ * One test for each sentence, or part of one, of the document's first words, its terms and its promises:
+ * what it names at the edges (too small, too large, empty, full, around an edge, refused) and just beside them.
  */
 public final class SentencesTest {
     private SentencesTest() {
@@ -10,6 +10,7 @@ public final class SentencesTest {
 
     public static void main(String[] args) throws IOException {
         Sentences sentences = new Sentences();
+        new WholeSentences(sentences).all();
         new BoardSentences(sentences).all();
         new LinesSentences(sentences).all();
         new ValuesSentences(sentences).all();
